@@ -76,6 +76,10 @@ public final class MenTest {
             Due.is("saying", Due.tell(x, i % 8), i);
         }
         Due.is("full", Due.tell(x, 1), -3);
+        Due.is("of(70, 7)", x.of(70, 7), 7);
+        Due.is("of(80, 7)", x.of(80, 7), -1);
+        Due.is("of(8, 8)", x.of(8, 8), -1);
+        Due.is("mend(80, 7, 1)", x.mend(80, 7, 1), -1);
         Due.is("full, and lacks", x.saying(5, 0, 2), -1);
         Due.is("full, and empty", x.saying(1, 0, 1), -11);
         Due.is("full, and no bytes", x.saying(0, 0, 1), -12);

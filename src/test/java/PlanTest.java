@@ -6,6 +6,7 @@ public final class PlanTest {
         byHand();
         ends();
         refusals();
+        eachCallWalksAnew();
         againstDeeds();
         Due.end();
     }
@@ -100,6 +101,26 @@ public final class PlanTest {
             Due.is("behind 2", x.behind(shelves[i], 0, 2), -1);
             Due.is("behind -1", x.behind(shelves[i], 0, -1), -1);
         }
+    }
+
+    private static void eachCallWalksAnew() {
+        ThreshedSound x = new ThreshedSound();
+        x.man(0);
+        Due.tell(x, 3);
+        Due.bytes(x, 0, 0, 16);
+        Due.bytes(x, 1, 16, 1);
+        x.mend(0, 0, 3);
+        x.mend(0, 1, 2);
+        Due.is("tone of shelf 0", x.tone(0, 0), 3);
+        Due.is("tone of shelf 1", x.tone(1, 0), -2);
+        Due.is("corn behind shelf 0", x.behind(0, 0, 0), 1);
+        Due.is("corn behind shelf 1", x.behind(1, 0, 0), 2);
+        Due.is("whole on shelf 0", x.behind(0, 0, 1), 0);
+        Due.is("whole on shelf 1", x.behind(1, 0, 1), -2);
+        x.strike(0);
+        Due.is("corn now", x.behind(0, 0, 0), 0);
+        Due.is("beats of shelf 1", x.plan(1, 0), 2);
+        Due.is("heard on shelf 1", x.plan(1, 1), 1);
     }
 
     /** What a plan tells comes true if it is struck from beat 0 on. */
