@@ -1,24 +1,18 @@
-import java.lang.reflect.InvocationTargetException;
-import java.lang.reflect.Method;
-import java.util.HashMap;
-import java.util.Map;
+import java.util.Arrays;
 import java.util.Random;
 
 /** Any calls, 512 an object, each beside the model's answer (promises 1 to 44). */
 public final class ModelTest {
     private static final int CALLS = 512;
     private static final int[] MOST = {7, 9, 15, 6, 12, 9, 20, 7};
-    private static final String[] NAMES = {"man", "saying", "mend", "of", "feed", "law", "reach", "plan", "tone",
-        "behind", "say", "can", "rows", "thresh", "tune", "nearest", "likely", "slips", "apart", "closest", "begins",
-        "meet", "first", "silent", "byTurns", "drawn", "strike", "sow", "led", "image", "back", "undo", "redo", "body",
-        "act", "trace", "keep", "row", "put", "element", "shift", "taken", "count"};
     private static final String LETTERS = "tcrmab0123456789!-(()))+*/%<=>&|?;;~";
     private static final String[] LAWS = {"t", "9-c", "c<2", "t%3-1", "b=m?c-1;t>2?r;9-c*2", "a>5&c<4|b=3", "5-m*2-c",
         "!(c%3)*(t+1)", "r/5+1-(m=b)", "a-c;7", "-c?t;4", "c?;", "((t)", "12345", "!!!!!!c", "-------c"};
 
-    private static final Map<String, Method> REAL = new HashMap<>();
-    private static final Map<String, Method> TOLD = new HashMap<>();
+    private static final Calls REAL = new Calls(ThreshedSound.class);
+    private static final Calls TOLD = new Calls(Model.class);
 
+    private final int run;
     private final Random random;
     private final ThreshedSound real = new ThreshedSound();
     private final Model told = new Model();
@@ -27,18 +21,15 @@ public final class ModelTest {
     private int sayings = 0;
     private int bodies = 0;
 
-    private ModelTest(Random random) {
+    private ModelTest(int run, Random random) {
+        this.run = run;
         this.random = random;
     }
 
-    public static void main(String[] args) throws ReflectiveOperationException {
-        for (String name : NAMES) {
-            REAL.put(name, named(ThreshedSound.class, name));
-            TOLD.put(name, named(Model.class, name));
-        }
+    public static void main(String[] args) {
         Random random = new Random(41);
         for (int run = 0; run < 4000; run++) {
-            ModelTest test = new ModelTest(random);
+            ModelTest test = new ModelTest(run, random);
             if (run % 8 != 0) {
                 test.furnish();
             }
@@ -47,27 +38,13 @@ public final class ModelTest {
         Due.end();
     }
 
-    private static Method named(Class<?> owner, String name) {
-        for (Method method : owner.getDeclaredMethods()) {
-            if (method.getName().equals(name)) {
-                method.setAccessible(true);
-                return method;
-            }
-        }
-        throw new IllegalStateException(name);
-    }
-
     /** One call of both; answers the model's. */
-    private long both(String name, Object... with) throws ReflectiveOperationException {
+    private long both(String name, Object... with) {
         calls++;
-        long want = ((Number) TOLD.get(name).invoke(told, with)).longValue();
-        try {
-            long got = ((Number) REAL.get(name).invoke(real, with)).longValue();
-            if (got != want) {
-                Due.is(name + java.util.Arrays.toString(with), got, want);
-            }
-        } catch (InvocationTargetException e) {
-            Due.is(name + java.util.Arrays.toString(with) + " threw " + e.getCause(), 1, 0);
+        long want = TOLD.make(told, name, with);
+        long got = REAL.make(real, name, with);
+        if (got != want) {
+            Due.is("call " + calls + " of run " + run + ": " + name + Arrays.toString(with), got, want);
         }
         return want;
     }
@@ -88,7 +65,7 @@ public final class ModelTest {
         }
     }
 
-    private void furnish() throws ReflectiveOperationException {
+    private void furnish() {
         int tones = upTo(7);
         int corn = upTo(9);
         for (int plank = 0; plank < 16; plank++) {
@@ -107,7 +84,7 @@ public final class ModelTest {
         layRow(1, 8, 8);
     }
 
-    private void tell(int many, int tones) throws ReflectiveOperationException {
+    private void tell(int many, int tones) {
         both("row", 2, 0, 8);
         for (int i = 0; i < 8; i++) {
             both("put", 2, i, (long) upTo(tones));
@@ -118,7 +95,7 @@ public final class ModelTest {
         }
     }
 
-    private void layRow(int shelf, int end, int length) throws ReflectiveOperationException {
+    private void layRow(int shelf, int end, int length) {
         int n = upTo(length);
         both("row", shelf, 0, n);
         for (int i = 0; i < n && i < 44; i++) {
@@ -126,19 +103,23 @@ public final class ModelTest {
         }
     }
 
-    private void callOn(int leaning) throws ReflectiveOperationException {
+    private void callOn(int leaning) {
         String[] often = leaning == 0 ? new String[] {"strike", "sow", "mend", "undo", "redo", "image", "back", "led"}
             : leaning == 1 ? new String[] {"feed", "law", "strike", "plan", "say", "nearest", "put", "likely"}
             : new String[] {"put", "row", "shift", "keep", "body", "act", "trace", "mend"};
         while (calls < CALLS) {
             boolean any = random.nextInt(2) == 0;
-            String name = any ? NAMES[random.nextInt(NAMES.length)] : often[random.nextInt(often.length)];
+            String name = any ? Calls.NAMES[random.nextInt(Calls.NAMES.length)] : often[random.nextInt(often.length)];
+            if (leaning == 1 && (name.equals("keep") || name.equals("row"))) {
+                // what lies on the shelves stays, to be asked about
+                name = "plan";
+            }
             if (name.equals("law") && CALLS - calls > 30 && random.nextInt(2) == 0) {
                 for (char letter : LAWS[random.nextInt(LAWS.length)].toCharArray()) {
                     both("feed", (int) letter);
                 }
             }
-            long answer = both(name, with(name));
+            long answer = both(name, leaning == 1 ? asked(name) : with(name));
             men = name.equals("man") && answer >= 0 ? men + 1 : men;
             sayings = name.equals("saying") && answer >= 0 ? sayings + 1 : sayings;
             bodies = name.equals("body") && answer >= 0 ? bodies + 1 : bodies;
@@ -151,6 +132,20 @@ public final class ModelTest {
         int known = Math.max(0, Math.min(7, what));
         int number = near(0, Math.max(0, numbers[known]));
         return new Object[] {what == 7 ? number / 10 * 10 + number % 10 % 7 : number, what, near(0, MOST[known])};
+    }
+
+    /** Of the two shelves on which a plan and sounds lie. */
+    private Object[] asked(String name) {
+        Object[] with = with(name);
+        boolean ofPlan = name.equals("plan") || name.equals("tone") || name.equals("behind");
+        boolean ofSounds = name.equals("nearest") || name.equals("likely") || name.equals("slips");
+        if ((ofPlan || ofSounds) && upTo(30) > 0) {
+            with[0] = ofPlan ? 0 : 1;
+        } else if (name.equals("put")) {
+            int shelf = upTo(1);
+            return new Object[] {shelf, near(0, shelf == 0 ? 30 : 5), shelf == 0 ? near(0, 16) : near(0, 7)};
+        }
+        return with;
     }
 
     private Object[] with(String name) {
