@@ -28,6 +28,7 @@ public final class DeedsBoundsTest {
         refusalsAndAllElseAreNone();
         fortyAtMost();
         fortyFirstDropsTheFirst();
+        eachOfTheFortyStaysItself();
         againAsLongAsNoOtherCame();
         anotherBehindSomeUndone();
         undoneLatestFirst();
@@ -445,6 +446,28 @@ public final class DeedsBoundsTest {
         Due.is("the road", x.of(0, 6), 0);
         Due.is("the second again", x.redo(), 39);
         Due.is("the second is done", x.of(1, 0), 1);
+    }
+
+    /** 55 changes, of which the first fifteen can't be undone: numbers of three kinds, each to another value. */
+    private static void eachOfTheFortyStaysItself() {
+        ThreshedSound x = new ThreshedSound();
+        for (int i = 0; i < 55; i++) {
+            x.mend(i % 11, i % 2, 1 + i / 11);
+        }
+        for (int i = 54; i >= 15; i--) {
+            Due.is("behind change " + i, x.of(i % 11, i % 2), 1 + i / 11);
+            Due.is("undo", x.undo(), i - 15);
+            int was = i < 22 ? 0 : 1 + (i - 22) / 11;
+            Due.is("ahead of change " + i, x.of(i % 11, i % 2), was);
+        }
+        Due.is("none left", x.undo(), -5);
+        for (int i = 0; i < 15; i++) {
+            Due.is("change " + i + " stays", x.of(i % 11, i % 2), 1 + i / 11);
+        }
+        for (int i = 15; i < 55; i++) {
+            Due.is("redo", x.redo(), 54 - i);
+            Due.is("behind change " + i, x.of(i % 11, i % 2), 1 + i / 11);
+        }
     }
 
     private static void againAsLongAsNoOtherCame() {

@@ -17,6 +17,8 @@ public final class LawBoundsTest {
         whatGoesOnBehindOnes();
         numbersHave1To4Digits();
         oneComparisonInEach();
+        eachLevelBindsCloser();
+        noneOneOrManyJoined();
         oneQuestionInALine();
         whatGoesOnInParentheses();
         sixSignsAreOpenAtMost();
@@ -134,6 +136,44 @@ public final class LawBoundsTest {
             goesOn("t" + sign + "(t" + sign + "t)", JOINING + LINE_SIGNS);
             goesOn("t" + sign + "(t", JOINING + COMPARING + ")");
         }
+    }
+
+    private static void eachLevelBindsCloser() {
+        loud("1|1&0", 1);
+        loud("0&1|1", 1);
+        loud("(1|1)&0", 0);
+        loud("1&2<1", 0);
+        loud("2<1&1", 0);
+        loud("1&(2<1)", 0);
+        loud("(1&2)<2", 1);
+        loud("1+1<1", 0);
+        loud("1<1+1", 1);
+        loud("1+(1<1)", 1);
+        loud("1+2*3", 7);
+        loud("2*3+1", 7);
+        loud("(1+2)*3", 9);
+        loud("!1+1", 1);
+        loud("!(1-1)", 1);
+        loud("-1+3", 2);
+        loud("-2*2+9", 5);
+        loud("!0*3", 3);
+    }
+
+    private static void noneOneOrManyJoined() {
+        loud("7-1-1", 5);
+        loud("8/2/2", 2);
+        loud("2*2*2", 8);
+        loud("9%5%3", 1);
+        loud("9-3+2", 8);
+        loud("8/3*3", 6);
+        loud("7*2%5", 4);
+        loud("0|0|0|2", 1);
+        loud("0|0|0|0", 0);
+        loud("3&3&3&3", 1);
+        loud("3&3&0&3", 0);
+        loud("1<2&2<3&3<4", 1);
+        loud("1<2|2<1|3<4", 1);
+        loud("1<2&2<1&3<4", 0);
     }
 
     private static void oneQuestionInALine() {

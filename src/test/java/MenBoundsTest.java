@@ -17,6 +17,7 @@ public final class MenBoundsTest {
         roadIs0To20AndOne();
         tonesOfSayingsAre0To7();
         tonesOfSayingsAreNumberedByTens();
+        tonesOfShorterAndShorterSayings();
         whatIs0To7And8ForOfAlone();
         mendAnswersWhatItWas();
         reachIsXAndYTogether();
@@ -194,6 +195,16 @@ public final class MenBoundsTest {
         Due.is("mend(-10, 7, 1)", x.mend(-10, 7, 1), -1);
         for (int saying = 0; saying < 6; saying++) {
             Due.is("tones stay as many", x.of(saying, 8), saying + 1);
+        }
+    }
+
+    private static void tonesOfShorterAndShorterSayings() {
+        ThreshedSound x = new ThreshedSound();
+        for (int n = 6; n >= 1; n--) {
+            Due.tell(x, new int[n]);
+        }
+        for (int number = 0; number < 80; number++) {
+            Due.is("of(" + number + ", 7)", x.of(number, 7), number % 10 < 6 - number / 10 ? 0 : -1);
         }
     }
 

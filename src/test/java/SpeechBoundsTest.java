@@ -13,6 +13,8 @@ public final class SpeechBoundsTest {
         fromBeat0On();
         cornAsStrokesLeaveIt();
         cornIsNeverBelowZero();
+        heardByToneAndCorn();
+        heardByBeatAndTone();
         whatCannotBeSaidHasNoPlanks();
         noMenSayNothing();
         canTellsEachOfEight();
@@ -193,6 +195,49 @@ public final class SpeechBoundsTest {
         Due.tell(x, 0, 0, 0);
         Due.tell(x, 0, 0, 0, 0);
         Due.is("corn 2, 1, 0 and no -1", x.can(), 2);
+    }
+
+    /** On one floor, one beside the other: the last of one kind beside the first of the next. */
+    private static void heardByToneAndCorn() {
+        ThreshedSound x = oneMan();
+        for (int plank = 0; plank < 8; plank++) {
+            x.mend(plank, 0, plank);
+            Due.tell(x, plank);
+        }
+        for (int plank = 8; plank < 16; plank++) {
+            x.mend(plank, 0, 7);
+        }
+        Due.is("law", Due.lay(x, "c"), 1);
+        for (int corn = 1; corn <= 9; corn++) {
+            for (int plank = 0; plank < 16; plank++) {
+                x.mend(plank, 1, plank % 2 == 0 && plank < 8 ? corn : 0);
+            }
+            Due.is("even tones by corn " + corn, x.can(), 0x55);
+            for (int plank = 0; plank < 16; plank++) {
+                x.mend(plank, 1, plank % 2 == 1 ? 10 - corn : 0);
+            }
+            Due.is("odd tones by corn " + (10 - corn), x.can(), 0xaa);
+        }
+    }
+
+    private static void heardByBeatAndTone() {
+        ThreshedSound x = oneMan();
+        for (int plank = 0; plank < 16; plank++) {
+            x.mend(plank, 0, Math.min(7, plank));
+            x.mend(plank, 1, 9);
+        }
+        int[] sevens = {7, 7, 7, 7, 7, 7};
+        Due.tell(x, sevens);
+        Due.tell(x, 0, 1, 2, 3, 4, 5);
+        Due.is("all heard, without a text", x.can(), 3);
+        Due.is("law", Due.lay(x, "b=t"), 1);
+        Due.is("tone by beat", x.can(), 0);
+        x.mend(14, 7, 0);
+        x.mend(15, 7, 1);
+        Due.is("tone by beat, round at four", x.can(), 2);
+        Due.is("law", Due.lay(x, "t=7&c=9|b"), 1);
+        Due.is("corn 9 on beat 0, less behind it, 8 on beat 4", x.say(0, 4), 8);
+        Due.is("beat 5", x.say(0, 5), 7);
     }
 
     private static void whatCannotBeSaidHasNoPlanks() {

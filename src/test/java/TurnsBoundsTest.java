@@ -22,6 +22,7 @@ public final class TurnsBoundsTest {
         turnsOfCornInReach();
         turnsByStrokesInAll();
         turnsWhenCornEnds();
+        turnsWhenHisOwnCornEnds();
         turnsRestFirst();
         turnsTheLeastOfLikeOnes();
         turnsTakeFirstWhatTheOtherWould();
@@ -249,6 +250,26 @@ public final class TurnsBoundsTest {
         x.mend(1, 1, 3);
         turnsAre(x, 1, 3, 1, 1);
         turnsAre(x, 1, 4, 1, 1);
+    }
+
+    private static void turnsWhenHisOwnCornEnds() {
+        ThreshedSound x = two();
+        x.mend(4, 1, 1);
+        for (int n = 1; n <= 4; n++) {
+            turnsAre(x, 1, n, 1, n < 3 ? 4 : 16);
+        }
+        turnsAre(x, 10, 1, 0, 16);
+        turnsAre(x, 10, 2, -1, 16);
+        turnsAre(x, 10, 4, -1, 16);
+        x.mend(4, 1, 2);
+        turnsAre(x, 1, 2, 1, 4);
+        turnsAre(x, 1, 3, 2, 4);
+        turnsAre(x, 10, 4, -2, 16);
+        x.mend(2, 1, 1);
+        turnsAre(x, 1, 2, 0, 4);
+        turnsAre(x, 1, 3, 1, 4);
+        turnsAre(x, 1, 4, 1, 4);
+        turnsAre(x, 10, 3, 0, 16);
     }
 
     private static void turnsRestFirst() {
