@@ -6,20 +6,24 @@ public final class ActsTest {
         byHand();
         bodies();
         Random random = new Random(23);
-        for (int run = 0; run < 300; run++) {
-            ThreshedSound x = new ThreshedSound();
-            for (int i = 0; i < 50; i++) {
-                int kind = (i + run) % 8;
-                Due.is("body", x.body(kind), i);
-                int at = random.nextInt(i + 1);
-                for (int act = 0; act < 4; act++) {
-                    int v = random.nextInt(3) == 0 ? random.nextInt() : random.nextInt(9);
-                    Due.is("act", x.act(at, act, v), JavaFlails.acted(JavaFlails.made((at + run) % 8, at), act, v));
-                    traceIs(x);
-                }
-            }
+        for (int run = 0; run < 3000; run++) {
+            anyActs(run, random);
         }
         Due.end();
+    }
+
+    private static void anyActs(int run, Random random) {
+        ThreshedSound x = new ThreshedSound();
+        for (int i = 0; i < 50; i++) {
+            Due.is("body", x.body((i + run) % 8), i);
+        }
+        for (int times = 0; times < 16; times++) {
+            int at = random.nextInt(50);
+            int act = random.nextInt(4);
+            int v = random.nextInt(3) == 0 ? random.nextInt() : random.nextInt(9);
+            Due.is("act", x.act(at, act, v), JavaFlails.acted(JavaFlails.made((at + run) % 8, at), act, v));
+            traceIs(x);
+        }
     }
 
     private static void traceIs(ThreshedSound x) {

@@ -184,15 +184,12 @@ public final class DeedsTest {
     private static void anyChanges() {
         Random random = new Random(17);
         for (int run = 0; run < 400; run++) {
-            ThreshedSound x = Due.anyFloor(random);
-            while (x.undo() >= 0) {
-                continue;
-            }
-            x.mend(0, 6, (x.of(0, 6) + 1) % 21);
+            ThreshedSound x = new ThreshedSound();
+            x.man(random.nextInt(16));
+            Due.tell(x, 1, 2, 3);
             List<int[]> done = new ArrayList<>();
             List<int[]> again = new ArrayList<>();
-            done.add(new int[] {0, 6, (x.of(0, 6) + 20) % 21, x.of(0, 6)});
-            for (int call = 0; call < 300; call++) {
+            for (int call = 0; call < 160; call++) {
                 int which = random.nextInt(run % 2 == 0 ? 10 : 4);
                 if (which == 0) {
                     Due.is("undo", x.undo(), done.isEmpty() ? -5 : done.size() - 1);
@@ -201,11 +198,11 @@ public final class DeedsTest {
                     Due.is("redo", x.redo(), again.isEmpty() ? -5 : again.size() - 1);
                     move(x, again, done, 3);
                 } else {
-                    int number = random.nextInt(random.nextInt(3) == 0 ? 80 : 5);
+                    int number = random.nextInt(random.nextInt(9) == 0 ? 80 : 3);
                     int what = random.nextInt(8);
-                    int was = x.of(number, what);
                     int v = random.nextInt(8);
-                    if (x.mend(number, what, v) >= 0 && was != v) {
+                    int was = x.mend(number, what, v);
+                    if (was >= 0 && was != v) {
                         done.add(new int[] {number, what, was, v});
                         again.clear();
                         if (done.size() > 40) {
@@ -229,11 +226,11 @@ public final class DeedsTest {
     /** Deeds led by hand beside those that are led. */
     private static void anyDeeds() {
         Random random = new Random(19);
-        for (int run = 0; run < 500; run++) {
+        for (int run = 0; run < 1500; run++) {
             ThreshedSound x = Due.anyFloor(random);
             int[] led = new int[5];
             List<Integer> heard = new ArrayList<>();
-            for (int call = 0; call < 60 && x.count(0) > 0; call++) {
+            for (int call = 0; call < 20 && x.count(0) > 0; call++) {
                 int plank = random.nextInt(17);
                 if (plank < 16 && random.nextInt(6) == 0) {
                     Due.is("sow", x.sow(plank), x.of(plank, 1));

@@ -202,7 +202,7 @@ public final class LawTest {
             }
             int place = place(text.toString());
             Due.is("law " + text, Due.lay(x, text.toString()), place < 0 ? 1 : -100 - place);
-            x = i % 100 == 0 ? new ThreshedSound() : x;
+            x = i % 8 == 0 ? new ThreshedSound() : x;
         }
     }
 

@@ -128,14 +128,7 @@ public final class PlanTest {
         Random random = new Random(3);
         for (int run = 0; run < 3000; run++) {
             ThreshedSound x = Due.anyFloor(random);
-            int[] planks = new int[random.nextInt(61)];
-            for (int i = 0; i < planks.length; i++) {
-                int man = x.count(0) == 0 ? -1 : i % x.count(0);
-                planks[i] = random.nextInt(17);
-                for (int tries = 0; man >= 0 && tries < 9 && !canGo(x, man, planks[i]); tries++) {
-                    planks[i] = random.nextInt(17);
-                }
-            }
+            int[] planks = anyPlanks(x, random);
             Due.bytes(x, 0, planks);
             int[] thought = new int[5];
             for (int what = 0; what < 5; what++) {
@@ -158,35 +151,51 @@ public final class PlanTest {
         }
     }
 
-    private static boolean canGo(ThreshedSound x, int man, int plank) {
-        return plank == 16 || (x.reach(man) >> plank & 1) == 1;
+    /** Mostly such as the man of the beat can reach. */
+    private static int[] anyPlanks(ThreshedSound x, Random random) {
+        int men = x.count(0);
+        int[] reach = new int[men];
+        for (int man = 0; man < men; man++) {
+            reach[man] = x.reach(man) | 1 << 16;
+        }
+        int[] planks = new int[random.nextInt(46)];
+        for (int i = 0; i < planks.length; i++) {
+            planks[i] = random.nextInt(17);
+            for (int tries = 0; men > 0 && tries < 9 && (reach[i % men] >> planks[i] & 1) == 0; tries++) {
+                planks[i] = random.nextInt(17);
+            }
+        }
+        return planks;
     }
 
     private static void follow(ThreshedSound x, int[] planks, int[] thought, int[] corn, int[] tones) {
-        int threshed = cornOfAll(x) == 0 ? 0 : -2;
+        int[] left = new int[16];
+        int all = 0;
+        for (int plank = 0; plank < 16; plank++) {
+            left[plank] = x.of(plank, 1);
+            all += left[plank];
+        }
+        int threshed = all == 0 ? 0 : -2;
         int beats = 0;
         while (beats < 40 && beats < planks.length && x.strike(planks[beats]) >= 0) {
             int heard = x.led(10) == 8 ? -2 : x.led(10);
             Due.is("tone", tones[beats], heard);
+            if (planks[beats] < 16 && left[planks[beats]] > 0) {
+                left[planks[beats]]--;
+                all--;
+            }
             beats++;
-            threshed = threshed == -2 && cornOfAll(x) == 0 ? beats : threshed;
+            threshed = threshed == -2 && all == 0 ? beats : threshed;
         }
         Due.is("behind the last", tones[beats], -2);
         Due.is("beats", thought[0], beats);
         Due.is("heard", thought[1], x.led(2));
-        Due.is("corn of all", thought[2], cornOfAll(x));
+        Due.is("corn of all", thought[2], all);
         Due.is("threshed", thought[3], threshed);
         for (int plank = 0; plank < 16; plank++) {
             Due.is("corn", corn[plank], x.of(plank, 1));
+            Due.is("corn left", left[plank], x.of(plank, 1));
         }
-    }
-
-    private static int cornOfAll(ThreshedSound x) {
-        int all = 0;
-        for (int plank = 0; plank < 16; plank++) {
-            all += x.of(plank, 1);
-        }
-        return all;
     }
 
     /** As texts: a tone a digit, what is not heard a dot. */

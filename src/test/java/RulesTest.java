@@ -60,7 +60,7 @@ public final class RulesTest {
 
     /** Whatever the machine throws ends this test. */
     private static void anyCalls(Random random, ThreshedSound x) {
-        for (int call = 0; call < 400; call++) {
+        for (int call = 0; call < 350; call++) {
             int a = any(random);
             int b = any(random);
             int c = any(random);

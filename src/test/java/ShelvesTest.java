@@ -141,12 +141,12 @@ public final class ShelvesTest {
 
     private static void anyShifts() {
         Random random = new Random(29);
-        for (int run = 0; run < 500; run++) {
+        for (int run = 0; run < 1500; run++) {
             ThreshedSound x = new ThreshedSound();
             long[][] rows = new long[6][];
             int sort = random.nextInt(4);
             for (int shelf = 0; shelf < 6; shelf++) {
-                rows[shelf] = new long[random.nextInt(61)];
+                rows[shelf] = new long[random.nextInt(25)];
                 x.row(shelf, sort, rows[shelf].length);
                 for (int i = 0; i < rows[shelf].length; i++) {
                     rows[shelf][i] = random.nextInt(100);

@@ -280,9 +280,9 @@ public final class SoundsBoundsTest {
     }
 
     private static void slipsAreBits() {
-        ThreshedSound x = new ThreshedSound();
-        Due.tell(x, 0, 1, 2, 3, 4, 5);
         for (int bits = 0; bits < 64; bits++) {
+            ThreshedSound x = new ThreshedSound();
+            Due.tell(x, 0, 1, 2, 3, 4, 5);
             int[] sounds = new int[6];
             for (int k = 0; k < 6; k++) {
                 sounds[k] = (bits >> k & 1) == 1 ? 7 : k;

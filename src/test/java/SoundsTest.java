@@ -120,23 +120,35 @@ public final class SoundsTest {
             sounds[k] = random.nextInt(random.nextInt(4) == 0 ? 10 : 3);
         }
         Due.bytes(x, 0, sounds);
-        int length = 0;
-        while (length < sounds.length && length < 6 && sounds[length] < 8) {
-            length++;
+        StringBuilder heard = new StringBuilder();
+        for (int k = 0; k < sounds.length && k < 6 && sounds[k] < 8; k++) {
+            heard.append(sounds[k]);
         }
-        int sayings = x.count(1);
+        String[] texts = new String[x.count(1)];
+        for (int s = 0; s < texts.length; s++) {
+            texts[s] = text(x, s);
+        }
+        asHeard(x, heard.toString(), texts);
+        twos(x, texts);
+    }
+
+    private static void asHeard(ThreshedSound x, String heard, String[] texts) {
         int best = -2;
         int least = -2;
-        BigInteger[] weights = new BigInteger[sayings];
+        BigInteger[] weights = new BigInteger[texts.length];
         BigInteger all = BigInteger.ZERO;
-        for (int s = 0; s < sayings; s++) {
-            boolean fits = x.of(s, 8) == length;
+        int[] arms = new int[x.count(0)];
+        for (int man = 0; man < arms.length; man++) {
+            arms[man] = x.of(man, 4);
+        }
+        for (int s = 0; s < texts.length; s++) {
+            boolean fits = texts[s].length() == heard.length();
             int bits = 0;
             weights[s] = fits ? BigInteger.ONE : BigInteger.ZERO;
-            for (int k = 0; k < length && fits; k++) {
-                boolean right = x.of(10 * s + k, 7) == sounds[k];
+            for (int k = 0; k < heard.length() && fits; k++) {
+                boolean right = texts[s].charAt(k) == heard.charAt(k);
                 bits |= right ? 0 : 1 << k;
-                int arm = x.count(0) == 0 ? 0 : x.of(k % x.count(0), 4);
+                int arm = arms.length == 0 ? 0 : arms[k % arms.length];
                 weights[s] = weights[s].multiply(BigInteger.valueOf(right ? arm * 7 : 12 - arm));
             }
             all = all.add(weights[s]);
@@ -148,10 +160,9 @@ public final class SoundsTest {
         }
         Due.is("nearest", x.nearest(0, 0), best);
         Due.is("nearest by", x.nearest(0, 1), least);
-        for (int s = 0; s < sayings; s++) {
+        for (int s = 0; s < texts.length; s++) {
             fraction(x, s, weights[s], all);
         }
-        twos(x);
     }
 
     private static void fraction(ThreshedSound x, int s, BigInteger one, BigInteger all) {
@@ -165,20 +176,18 @@ public final class SoundsTest {
         Due.is("likely below", x.likely(0, s, 1), none ? 1 : all.divide(common).longValueExact());
     }
 
-    private static void twos(ThreshedSound x) {
+    private static void twos(ThreshedSound x, String[] texts) {
         int closest = -2;
         int least = 99;
-        for (int a = 0; a < x.count(1); a++) {
+        for (int a = 0; a < texts.length; a++) {
             int begins = 0;
-            for (int b = 0; b < x.count(1); b++) {
-                String one = text(x, a);
-                String other = text(x, b);
-                int apart = one.length() == other.length() ? 0 : -2;
-                for (int k = 0; k < one.length() && apart >= 0; k++) {
-                    apart += one.charAt(k) == other.charAt(k) ? 0 : 1;
+            for (int b = 0; b < texts.length; b++) {
+                int apart = texts[a].length() == texts[b].length() ? 0 : -2;
+                for (int k = 0; k < texts[a].length() && apart >= 0; k++) {
+                    apart += texts[a].charAt(k) == texts[b].charAt(k) ? 0 : 1;
                 }
                 Due.is("apart", x.apart(10 * a + b), apart);
-                begins |= a != b && other.startsWith(one) ? 1 << b : 0;
+                begins |= a != b && texts[b].startsWith(texts[a]) ? 1 << b : 0;
                 if (a < b && apart >= 0 && apart < least) {
                     least = apart;
                     closest = 10 * a + b;
@@ -190,8 +199,9 @@ public final class SoundsTest {
     }
 
     private static String text(ThreshedSound x, int saying) {
+        int length = x.of(saying, 8);
         StringBuilder text = new StringBuilder();
-        for (int k = 0; k < x.of(saying, 8); k++) {
+        for (int k = 0; k < length; k++) {
             text.append(x.of(10 * saying + k, 7));
         }
         return text.toString();

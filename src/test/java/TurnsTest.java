@@ -10,7 +10,7 @@ public final class TurnsTest {
         for (int run = 0; run < 1500; run++) {
             ThreshedSound x = Due.anyFloor(random);
             beats(x);
-            nights(x, random);
+            nights(Due.anyFloor(random), random);
             if (run % 5 == 0) {
                 turns(x);
             }
@@ -147,15 +147,22 @@ public final class TurnsTest {
         int z = seed;
         int right = 0;
         int near = 0;
+        int[] tones = new int[x.of(saying, 8)];
+        int[] arms = new int[x.count(0)];
+        for (int k = 0; k < tones.length; k++) {
+            tones[k] = x.of(10 * saying + k, 7);
+        }
+        for (int man = 0; man < arms.length; man++) {
+            arms[man] = x.of(man, 4);
+        }
         for (int night = 0; night < n; night++) {
-            int[] heard = new int[x.of(saying, 8)];
+            int[] heard = new int[tones.length];
             boolean all = true;
             for (int k = 0; k < heard.length; k++) {
                 z = z * 1103515245 + 12345;
-                int tone = x.of(10 * saying + k, 7);
-                boolean good = (z >>> 8) % 12 < x.of(k % x.count(0), 4);
-                heard[k] = good ? tone : (tone + 1 + (z >>> 16) % 7) % 8;
-                Due.is("a slip is another tone", good == (heard[k] == tone) ? 1 : 0, 1);
+                boolean good = (z >>> 8) % 12 < arms[k % arms.length];
+                heard[k] = good ? tones[k] : (tones[k] + 1 + (z >>> 16) % 7) % 8;
+                Due.is("a slip is another tone", good == (heard[k] == tones[k]) ? 1 : 0, 1);
                 all &= good;
             }
             right += all ? 1 : 0;
@@ -171,26 +178,35 @@ public final class TurnsTest {
         for (int plank = 0; plank < 16; plank++) {
             corn[plank] = x.of(plank, 1);
         }
-        for (int a = 0; a < x.count(0); a++) {
-            for (int b = 0; b < x.count(0); b++) {
+        int[] reach = new int[x.count(0)];
+        for (int man = 0; man < reach.length; man++) {
+            reach[man] = x.reach(man);
+        }
+        for (int a = 0; a < reach.length; a++) {
+            for (int b = 0; b < reach.length; b++) {
                 for (int n = 1; n <= 4 && a != b; n++) {
-                    if (n == 4 && (a + b) % 3 != 0) {
-                        continue;
+                    if (n < 4 || (a + b) % 3 == 0) {
+                        turnsOfTwo(x, corn, reach, 10 * a + b, n);
                     }
-                    int best = -best(corn, x.reach(b), x.reach(a), n - 1);
-                    int plank = 16;
-                    for (int p = 0; p < 16; p++) {
-                        if ((x.reach(a) >> p & 1) == 1) {
-                            int found = struck(corn, p, x.reach(b), x.reach(a), n - 1);
-                            plank = found > best ? p : plank;
-                            best = Math.max(best, found);
-                        }
-                    }
-                    Due.is("byTurns 0", x.byTurns(10 * a + b, n, 0), best);
-                    Due.is("byTurns 1", x.byTurns(10 * a + b, n, 1), plank);
                 }
             }
         }
+    }
+
+    private static void turnsOfTwo(ThreshedSound x, int[] corn, int[] reach, int ab, int n) {
+        int first = reach[ab / 10];
+        int other = reach[ab % 10];
+        int best = -best(corn, other, first, n - 1);
+        int plank = 16;
+        for (int p = 0; p < 16; p++) {
+            if ((first >> p & 1) == 1) {
+                int found = struck(corn, p, other, first, n - 1);
+                plank = found > best ? p : plank;
+                best = Math.max(best, found);
+            }
+        }
+        Due.is("byTurns 0", x.byTurns(ab, n, 0), best);
+        Due.is("byTurns 1", x.byTurns(ab, n, 1), plank);
     }
 
     /** Every plank is tried at every turn. */
